@@ -235,15 +235,15 @@ public final class CodeLister {
             return NUMBER[kind];
         }
 
+        /** The length of an instruction; data is never asked for it. */
         static int bytes(int kind) {
-            int ownByte = kind == DATA ? 0 : 1;
             switch (NUMBER[kind]) {
                 case NO_NUMBER:
-                    return ownByte;
+                    return 1;
                 case WORD:
-                    return ownByte + 2;
+                    return 3;
                 default:
-                    return ownByte + 1;
+                    return 2;
             }
         }
 

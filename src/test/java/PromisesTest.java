@@ -21,7 +21,6 @@ public final class PromisesTest {
         listOfOverlaps();
         textLengthAndCharAt();
         type();
-        typeToTheLimit();
         assembleRightTexts();
         assembleWrongTexts();
         assembleTooMany();
@@ -343,19 +342,6 @@ public final class PromisesTest {
             Check.due("type at the end of " + c, x.type(2, c), false);
         }
         Check.due("text", Check.text(x), "BC");
-    }
-
-    /** No 512 calls get that far, so the document leaves these answers free: that it stays refused is our choice. */
-    private static void typeToTheLimit() {
-        CodeLister x = new CodeLister();
-        for (int i = 0; i < 2400; i++) {
-            Check.due("type at " + i, x.type(i, 10), true);
-        }
-        Check.due("type one too many", x.type(2400, 10), false);
-        Check.due("type over the last", x.type(2399, 65), true);
-        Check.due("textLength", x.textLength(), 2400);
-        Check.due("charAt behind", x.charAt(2400), -1);
-        Check.due("assemble", x.assemble(), -1);
     }
 
     private static void assembles(String text, String bytes) {
